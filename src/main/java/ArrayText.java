@@ -1,5 +1,3 @@
-import java.util.Arrays;
-
 /** Works out expressions over arrays of numbers; ../shared/DOC.md says what each call promises. */
 public final class ArrayText {
     private static final int MOST_VARIABLES = 8;
@@ -32,9 +30,9 @@ public final class ArrayText {
     private static final int REDUCTION = 9;
     private static final int RUNNING = 10;
 
-    private static final int NO_FAULT = 0;
-    private static final int SHAPE_FAULT = 1;
-    private static final int SIZE_FAULT = 2;
+    /** Stand in a shape's place where there is none; no shape is below 0. */
+    private static final int SHAPE_FAULT = -1;
+    private static final int SIZE_FAULT = -2;
 
     private final char[] text;
     private int textLength;
@@ -112,7 +110,7 @@ public final class ArrayText {
     }
 
     public double at(int v, int i) {
-        return variables.element(v, i);
+        return variables.hasElement(v, i) ? variables.element(v, i) : 0.0;
     }
 
     public int run(int v) throws IndexOutOfBoundsException, IllegalArgumentException, IllegalStateException,
@@ -153,11 +151,11 @@ public final class ArrayText {
         if (root == NONE) {
             throw new IllegalArgumentException("no expression");
         }
-        int fault = shapeFinder.findAll(root);
-        if (fault == SHAPE_FAULT) {
+        int found = shapeFinder.findAll(root);
+        if (found == SHAPE_FAULT) {
             throw new IllegalStateException("shapes that do not fit");
         }
-        if (fault == SIZE_FAULT) {
+        if (found == SIZE_FAULT) {
             throw new UnsupportedOperationException("no such size");
         }
         return root;
@@ -234,7 +232,11 @@ public final class ArrayText {
         }
 
         boolean hasElement(int v, int i) {
-            return exists(v) && i >= 0 && i < MOST_ELEMENTS && i < Shapes.elements(shapes[v]);
+            return exists(v) && i >= 0 && i < Shapes.elements(shapes[v]);
+        }
+
+        private static boolean hasRoom(int v, int i) {
+            return exists(v) && i >= 0 && i < MOST_ELEMENTS;
         }
 
         int shapeHeld(int v) {
@@ -242,18 +244,22 @@ public final class ArrayText {
         }
 
         double element(int v, int i) {
-            return hasElement(v, i) ? elements[v * MOST_ELEMENTS + i] : 0.0;
+            return hasRoom(v, i) ? elements[v * MOST_ELEMENTS + i] : 0.0;
         }
 
+        /** All elements become 0. */
         void become(int v, int shape) {
-            if (exists(v)) {
-                shapes[v] = shape;
-                Arrays.fill(elements, v * MOST_ELEMENTS, (v + 1) * MOST_ELEMENTS, 0.0);
+            if (!exists(v)) {
+                return;
+            }
+            shapes[v] = shape;
+            for (int i = 0; i < MOST_ELEMENTS; i++) {
+                elements[v * MOST_ELEMENTS + i] = 0.0;
             }
         }
 
         void keep(int v, int i, double x) {
-            if (hasElement(v, i)) {
+            if (hasRoom(v, i)) {
                 elements[v * MOST_ELEMENTS + i] = x;
             }
         }
@@ -510,106 +516,94 @@ public final class ArrayText {
         }
     }
 
-    /** Finds the shape of every node, or the first fault that there is. */
+    /** Finds the shape of every node, or the fault that stands in its place. */
     private static final class ShapeFinder {
         private final Tree tree;
         private final Variables variables;
-        private final int[] faults = new int[Tree.MOST_NODES];
 
         ShapeFinder(Tree tree, Variables variables) {
             this.tree = tree;
             this.variables = variables;
         }
 
-        /** The fault that is found first, or NO_FAULT. */
+        /**
+         * The root's shape, or the fault that is found first: a part's comes before the node's own, and the right
+         * part's before the left one's.
+         */
         int findAll(int root) {
             int many = tree.nodeCount();
-            for (int node = 0; node < many && node < faults.length; node++) {
-                faults[node] = firstFault(node);
+            for (int node = 0; node < many; node++) {
+                int left = tree.shapeFound(tree.left(node));
+                int right = tree.shapeFound(tree.right(node));
+                if (right < 0) {
+                    tree.keepShape(node, right);
+                } else if (left < 0) {
+                    tree.keepShape(node, left);
+                } else {
+                    tree.keepShape(node, ownShape(node, left, right));
+                }
             }
-            return faultFound(root);
+            return tree.shapeFound(root);
         }
 
-        /** A part's fault comes before the node's own, and the right part's before the left one's. */
-        private int firstFault(int node) {
-            int right = faultFound(tree.right(node));
-            if (right != NO_FAULT) {
-                return right;
-            }
-            int left = faultFound(tree.left(node));
-            return left != NO_FAULT ? left : ownFault(node);
-        }
-
-        private int faultFound(int node) {
-            return tree.exists(node) && node < faults.length ? faults[node] : NO_FAULT;
-        }
-
-        /** Keeps the node's shape, if it has one. */
-        private int ownFault(int node) {
+        private int ownShape(int node, int left, int right) {
             switch (tree.kind(node)) {
                 case CONSTANT:
-                    return NO_FAULT;
+                    return tree.shapeFound(node);
                 case NAME:
-                    return found(node, variables.shapeHeld(tree.detail(node)));
+                    return variables.shapeHeld(tree.detail(node));
                 case COUNTING:
-                    return findRow(node, tree.detail(node));
+                    return rowOf(tree.detail(node));
                 case BY_ELEMENT:
-                    return findByElement(node);
+                    return paired(left, right);
                 case JOIN:
-                    return findJoined(node);
+                    return joined(left, right);
                 case ANEW:
-                    return findAnew(node);
+                    return shapedAnew(node, left, right);
                 case TURN:
-                    return found(node, turned(rightShape(node)));
+                    return turned(right);
                 case REDUCTION:
-                    return found(node, reduced(rightShape(node)));
+                    return reduced(right);
                 default:
-                    return found(node, rightShape(node));
+                    return right;
             }
         }
 
-        private int found(int node, int shape) {
-            tree.keepShape(node, shape);
-            return NO_FAULT;
+        private static int rowOf(int elements) {
+            return elements < 1 || elements > MOST_ELEMENTS ? SIZE_FAULT : elements;
         }
 
-        private int findRow(int node, int elements) {
-            return elements < 1 || elements > MOST_ELEMENTS ? SIZE_FAULT : found(node, elements);
-        }
-
-        private int findByElement(int node) {
-            int left = leftShape(node);
-            int right = rightShape(node);
+        private static int paired(int left, int right) {
             if (left == right || right == 0) {
-                return found(node, left);
+                return left;
             }
-            return left == 0 ? found(node, right) : SHAPE_FAULT;
+            return left == 0 ? right : SHAPE_FAULT;
         }
 
-        private int findJoined(int node) {
-            int left = leftShape(node);
-            int right = rightShape(node);
+        private static int joined(int left, int right) {
             if (Shapes.isTable(left) || Shapes.isTable(right)) {
                 return SHAPE_FAULT;
             }
-            return findRow(node, Shapes.elements(left) + Shapes.elements(right));
+            return rowOf(Shapes.elements(left) + Shapes.elements(right));
         }
 
-        private int findAnew(int node) {
-            int numbers = Shapes.elements(leftShape(node));
-            if (tree.kind(tree.left(node)) != CONSTANT || numbers > 2) {
+        private int shapedAnew(int node, int left, int right) {
+            int measure = tree.left(node);
+            int numbers = Shapes.elements(left);
+            if (tree.kind(measure) != CONSTANT || numbers > 2) {
                 return SHAPE_FAULT;
             }
-            int first = (int) tree.element(tree.left(node), 0);
-            int second = (int) tree.element(tree.left(node), 1);
-            int elements = numbers == 2 ? first * second : first;
+            boolean isTable = numbers == 2;
+            int first = (int) tree.element(measure, 0);
+            int second = isTable ? (int) tree.element(measure, 1) : 1;
+            int elements = first * second;
             if (elements < 1 || elements > MOST_ELEMENTS) {
                 return SIZE_FAULT;
             }
-            if (elements < Shapes.elements(rightShape(node))) {
+            if (elements < Shapes.elements(right)) {
                 return SHAPE_FAULT;
             }
-            return found(node, numbers == 2 ? Shapes.ofTable(first, second) : first);
+            return isTable ? Shapes.ofTable(first, second) : first;
         }
 
         private static int turned(int shape) {
@@ -618,14 +612,6 @@ public final class ArrayText {
 
         private static int reduced(int shape) {
             return Shapes.isTable(shape) ? Shapes.lines(shape) : 0;
-        }
-
-        private int leftShape(int node) {
-            return tree.shapeFound(tree.left(node));
-        }
-
-        private int rightShape(int node) {
-            return tree.shapeFound(tree.right(node));
         }
     }
 
