@@ -2,12 +2,24 @@ import java.util.Objects;
 
 /** Compares answers with what is due, and tells a call's answer as a text, an exception as "throws." and its name. */
 final class Check {
+    static final String INDEX = "throws.IndexOutOfBoundsException";
+    static final String TEXT = "throws.IllegalArgumentException";
+    static final String SHAPE = "throws.IllegalStateException";
+    static final String SIZE = "throws.UnsupportedOperationException";
+    static final String RANGE = "throws.ArithmeticException";
+
     private int wrong = 0;
+    private String sentence = "";
+
+    /** The document's sentence that the checks from here on would show broken. */
+    void says(String documentSentence) {
+        sentence = "[" + documentSentence + "] ";
+    }
 
     void due(String call, Object got, Object want) {
         if (!Objects.equals(got, want)) {
             wrong++;
-            System.out.println(call + " answered " + got + ", due is " + want);
+            System.out.println(sentence + call + " answered " + got + ", due is " + want);
         }
     }
 
@@ -44,10 +56,14 @@ final class Check {
         return chars;
     }
 
+    /** A text that does not fit is the test's own mistake, and would go unseen otherwise. */
     static void become(ArrayText x, String text) {
         x.erase();
         for (int from = 0; from < text.length(); from += 8) {
-            x.write(packed(text.substring(from, Math.min(text.length(), from + 8))));
+            String characters = text.substring(from, Math.min(text.length(), from + 8));
+            if (x.write(packed(characters)) != characters.length()) {
+                throw new AssertionError("write refused a part of " + text);
+            }
         }
     }
 
@@ -81,6 +97,21 @@ final class Check {
     static String element(double x) {
         double element = x + 0.0;
         return element == Math.rint(element) ? String.valueOf((long) element) : String.valueOf(element);
+    }
+
+    /** An object with variable v holding a row of v + 1 elements, no two alike, and one run that made three arrays. */
+    static ArrayText filled() {
+        ArrayText x = new ArrayText();
+        become(x, "0,0,0,0");
+        run(x, 0);
+        x.erase();
+        for (int v = 0; v < 8; v++) {
+            x.shape(v, v + 1);
+            for (int i = 0; i <= v; i++) {
+                x.set(v, i, 10 * v + i + 0.5);
+            }
+        }
+        return x;
     }
 
     /** All that can be seen of an object but its text. */
