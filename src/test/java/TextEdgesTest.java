@@ -162,6 +162,10 @@ public final class TextEdgesTest {
             "i1 2", "1 i2", "i1i1", "1i1", "ai1", "I1"}) {
             CHECK.dueLook(x, text, Check.TEXT);
         }
+        for (char c = 1; c <= 127; c++) {
+            dueExpression(c + "3", c == 'i' || c == '-' || c == '~' || c >= '0' && c <= '9');
+            dueExpression("i" + c, c >= '0' && c <= '9');
+        }
     }
 
     private static void spacesInConstants() {
@@ -218,6 +222,10 @@ public final class TextEdgesTest {
         for (String text : new String[] {"()", "(", ")", "(a", "a)", "((a)", "(a))", ")a(", "(a)b", "a(b)", "(a)(b)",
             "()a", "a()", "(+)", "(a+)", "(+a)", "(-)", "(/)+a", "(1 2) 3", "1 (2)", "(a]", "[a)", "{a}", "i(3)"}) {
             dueExpression(text, false);
+        }
+        for (char c = 1; c <= 127; c++) {
+            dueExpression(c + "a)", c == '(');
+            dueExpression("(a" + c + "+b", c == ')');
         }
     }
 

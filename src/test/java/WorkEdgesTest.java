@@ -211,6 +211,13 @@ public final class WorkEdgesTest {
         for (int many = 1; many <= 24; many++) {
             row.append(' ').append(many - 1);
             due("i" + many, many + ":" + row);
+            ArrayText x = shaped();
+            Check.become(x, many + "#9-i" + many);
+            Check.run(x, 1);
+            CHECK.dueResult(x, "i" + many, many + ":" + row);
+            Check.become(x, "24#99");
+            Check.run(x, 1);
+            CHECK.dueResult(x, "i" + many, many + ":" + row);
         }
     }
 
