@@ -27,6 +27,7 @@ public final class ErrorsEdgesTest {
         rangeInsideTheExpression();
         rangeOnTheWayOfAReduction();
         rangeOnTheWayOfARun();
+        rangeOfThisRunAlone();
         CHECK.end();
     }
 
@@ -366,5 +367,21 @@ public final class ErrorsEdgesTest {
         due("\\+3 1#a", "97: 1000000000000 1000000000000 1000000000000");
         due("\\|a,a", "2: 1000000000000 1000000000000");
         due("\\&b,b", "2: -1000000000000 -1000000000000");
+    }
+
+    /** Rows that serve every call still hold what was worked out before, behind a shorter array's end. */
+    private static void rangeOfThisRunAlone() {
+        CHECK.says("the first kind that there is in the expression");
+        ArrayText x = new ArrayText();
+        Check.fill(x, 0, 4, 1, 2, 1e12, 1e12);
+        Check.fill(x, 1, 4, 3, 4, 1e12, 1e12);
+        CHECK.dueResult(x, "a&b", "4: 1 2 1000000000000 1000000000000");
+        CHECK.dueResult(x, "\\|a", "4: 1 2 1000000000000 1000000000000");
+        Check.fill(x, 0, 2, 1, 2);
+        Check.fill(x, 1, 2, 3, 4);
+        CHECK.dueResult(x, "a*b", "2: 3 8");
+        CHECK.dueResult(x, "\\*a", "2: 1 2");
+        CHECK.dueResult(x, "/+a", "0: 3");
+        CHECK.dueResult(x, "a,b", "4: 1 2 3 4");
     }
 }
